@@ -40,7 +40,8 @@ public final class ShaftPlumb {
     private static final int QUARTER_CIRCLE = 324000;
     private static final int RADIUS = 10000;
     private static final long FIVE_QUARTER_SQUARES = 524880000000L;
-    private static final long GREATEST_ROOT_BIT = 1L << 30;
+    private static final int TOP_BIT_OF_ROOT = 30;
+    private static final long SECONDS_OF_SWING = 20626L;
 
     private final Mine mine;
     private final Copies copies;
@@ -431,14 +432,13 @@ public final class ShaftPlumb {
         if (traverse == null) {
             return NO_SUCH;
         }
-        switch (letter) {
-            case 'l':
-                return refusalOfLeg(traverse, second, third);
-            case 'k':
-                return traverse.legCount == 0 ? NOT_NOW : FINE;
-            default:
-                return traverse.isClosed() && traverse.trouble == 0 ? FINE : NOT_NOW;
+        if (letter == 'l') {
+            return refusalOfLeg(traverse, second, third);
         }
+        if (letter == 'k') {
+            return traverse.legCount == 0 ? NOT_NOW : FINE;
+        }
+        return traverse.isClosed() && traverse.trouble == 0 ? FINE : NOT_NOW;
     }
 
     private static int refusalOfTurn(Wire wire, int reading) {
@@ -467,14 +467,10 @@ public final class ShaftPlumb {
         if (traverse == null) {
             return NONE;
         }
-        switch (letter) {
-            case 'l':
-                return traverse.append(second, third);
-            case 'k':
-                return traverse.shorten();
-            default:
-                return traverse.takeGapAway();
+        if (letter == 'l') {
+            return traverse.append(second, third);
         }
+        return letter == 'k' ? traverse.shorten() : traverse.takeGapAway();
     }
 
     private static boolean isIn(int value, int least, int greatest) {
@@ -512,15 +508,18 @@ public final class ShaftPlumb {
             return divisor == 0 ? 0 : (int) (dividend / divisor);
         }
 
-        /** The root of the sum of two squares. */
         static int lengthOf(long east, long north) {
-            return rootOf(east * east + north * north);
+            return rootOf(squareOf(east, north));
+        }
+
+        static long squareOf(long east, long north) {
+            return east * east + north * north;
         }
 
         static int rootOf(long square) {
             long root = 0;
-            for (long bit = GREATEST_ROOT_BIT; bit > 0; bit >>= 1) {
-                long tried = root + bit;
+            for (int bit = TOP_BIT_OF_ROOT; bit >= 0; bit--) {
+                long tried = root + (1L << bit);
                 if (tried * tried <= square) {
                     root = tried;
                 }
@@ -650,7 +649,7 @@ public final class ShaftPlumb {
             north = nearWire.north;
             cause = nearWire.trouble != 0 ? nearWire.trouble : farWire.trouble;
             trouble = cause != 0 ? 3 : a > 3 * c ? 4 : 0;
-            swung = Numbers.quotient((farWire.rest - nearWire.rest) * 20626L, c);
+            swung = cause != 0 ? 0 : Numbers.quotient((farWire.rest - nearWire.rest) * SECONDS_OF_SWING, c);
             start = trouble != 0 ? NONE : startWith(g);
         }
 
@@ -769,8 +768,11 @@ public final class ShaftPlumb {
 
         /** How many legs come before a leg when the longest come first, of equal ones the smallest numbers. */
         private int legsBefore(int leg) {
+            if (!hasLeg(leg)) {
+                return 0;
+            }
             int before = 0;
-            for (int i = 0; i < legCount && i < MOST_LEGS && hasLeg(leg); i++) {
+            for (int i = 0; i < legCount && i < MOST_LEGS; i++) {
                 if (lengths[i] > lengths[leg] || lengths[i] == lengths[leg] && i < leg) {
                     before++;
                 }
@@ -881,9 +883,12 @@ public final class ShaftPlumb {
 
         /** The leg whose direction fits the miss best. */
         int suspectedLeg() {
+            if (!hasGap()) {
+                return NONE;
+            }
             int suspected = NONE;
             long least = 0;
-            for (int i = 0; i < legCount && i < MOST_LEGS && hasGap(); i++) {
+            for (int i = 0; i < legCount && i < MOST_LEGS; i++) {
                 long along = (long) missEast * Numbers.sineOf(bearings[i] + QUARTER_CIRCLE);
                 long size = Math.abs(along - (long) missNorth * Numbers.sineOf(bearings[i]));
                 if (suspected == NONE || size < least) {
@@ -903,8 +908,11 @@ public final class ShaftPlumb {
 
         /** The smallest small angle of a join with which the gap has at most a size. */
         int smallAngleFor(int number, Join join, int size) {
+            if (!hasGap()) {
+                return NONE;
+            }
             int sign = number == firstJoin ? 1 : number == lastJoin ? -1 : 0;
-            for (int g = -GREATEST_SMALL_ANGLE; g <= GREATEST_SMALL_ANGLE && hasGap(); g++) {
+            for (int g = -GREATEST_SMALL_ANGLE; g <= GREATEST_SMALL_ANGLE; g++) {
                 int turned = sign * (join.startWith(g) - join.start);
                 if (Math.abs(Numbers.centre(gap + turned)) <= size) {
                     return g;
@@ -922,14 +930,15 @@ public final class ShaftPlumb {
             int sineThere = Numbers.sineOf(bearing);
             int cosineThere = Numbers.sineOf(bearing + QUARTER_CIRCLE);
             int best = NONE;
-            int least = 0;
+            long least = 0;
             for (int i = 1; i <= metres; i++) {
-                int east = eastAtEnd + step(METRE * i, sineThere) - other.eastAtEnd;
-                int north = northAtEnd + step(METRE * i, cosineThere) - other.northAtEnd;
-                int distance = Numbers.lengthOf(east, north);
-                if (best == NONE || distance < least) {
-                    least = distance;
-                    best = METRE * i;
+                int length = METRE * i;
+                int east = eastAtEnd + step(length, sineThere) - other.eastAtEnd;
+                int north = northAtEnd + step(length, cosineThere) - other.northAtEnd;
+                // Distances are told as roots, so a smaller square is not yet a smaller distance.
+                if (best == NONE || Numbers.squareOf(east, north) < least * least) {
+                    least = Numbers.lengthOf(east, north);
+                    best = length;
                 }
             }
             return best;
@@ -1193,17 +1202,13 @@ public final class ShaftPlumb {
         }
 
         private static int numbersOf(char sign) {
-            switch (sign) {
-                case 't':
-                    return 2;
-                case 'l':
-                    return 3;
-                case 'k':
-                case 'a':
-                    return 1;
-                default:
-                    return 0;
+            if (sign == 'l') {
+                return 3;
             }
+            if (sign == 't') {
+                return 2;
+            }
+            return sign == 'k' || sign == 'a' ? 1 : 0;
         }
 
         private static boolean isDigit(char sign) {
