@@ -1117,14 +1117,17 @@ public final class ShaftPlumb {
         }
 
         void keep(Mine mine) {
-            latest = latest >= MOST_COPIES - 1 ? 0 : latest + 1;
+            latest = isIn(latest, 0, MOST_COPIES - 2) ? latest + 1 : 0;
             kept[latest].copyFrom(mine);
             count = Math.min(count + 1, MOST_COPIES);
         }
 
         int giveBack(Mine mine) {
+            if (!isIn(latest, 0, MOST_COPIES - 1)) {
+                return count;
+            }
             mine.copyFrom(kept[latest]);
-            latest = latest <= 0 ? MOST_COPIES - 1 : latest - 1;
+            latest = latest == 0 ? MOST_COPIES - 1 : latest - 1;
             count--;
             return count;
         }
