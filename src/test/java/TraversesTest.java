@@ -1,396 +1,348 @@
-/** Promises 11 to 18: begin, addLeg, dropLeg, close, adjust, traverse, leg, trouble. */
+/** Promises 11 to 14: begin, addLeg, dropLeg, close. */
 public final class TraversesTest {
     private static final int NONE = ShaftPlumb.NONE;
 
     public static void main(String[] args) {
-        begin();
-        addLeg();
-        dropLeg();
-        close();
-        closeErrors();
-        adjust();
-        adjustLeft();
-        adjustErrors();
-        traverseNumbers();
-        traverseErrors();
-        gaps();
-        tolerance();
-        misses();
-        legs();
-        legErrors();
-        troubles();
-        troubleOfLastJoin();
+        beginTakesJoins();
+        beginTakesFour();
+        beginOrder();
+        beginMakesEmptyTraverse();
+        beginTakesJoinInTrouble();
+        beginIsUndoable();
+        addLegTakesTraverses();
+        addLegTakesAngles();
+        addLegTakesLengths();
+        addLegTakesTwelve();
+        addLegToClosed();
+        addLegOrder();
+        addLegInTrouble();
+        addLegIsUndoable();
+        twelfthLegComesBack();
+        dropLegTakesTraverses();
+        dropLegWithoutLegs();
+        dropLegTellsHowManyAreLeft();
+        dropLegOpens();
+        dropLegIsUndoable();
+        closeTakesTraverses();
+        closeTakesJoins();
+        closeTakesOtherJoin();
+        closeTakesAngles();
+        closeWithoutLegs();
+        closeOrder();
+        closeExchanges();
+        closeTellsTrouble();
+        closeIsUndoable();
         Check.end("TraversesTest");
     }
 
-    private static void begin() {
-        ShaftPlumb x = Mines.wires();
-        Check.index(x, "begin(0) without joins", () -> x.begin(0));
-        x.join(0, 1, 0, 100, 100, 0);
-        x.join(0, 1, 0, 100, 100, 0);
-        Check.index(x, "begin(-1)", () -> x.begin(-1));
-        Check.index(x, "begin(2)", () -> x.begin(2));
+    private static ShaftPlumb fourTraverses() {
+        ShaftPlumb x = Mines.joins();
         for (int i = 0; i < 4; i++) {
-            Check.due("begin", x.begin(1), i);
+            x.begin(1);
         }
-        Check.state(x, "a fifth traverse", () -> x.begin(0));
-        Check.index(x, "a fifth traverse at no join", () -> x.begin(2));
-        Check.due("its first join", x.traverse(3, 0), 1);
-        Check.due("undo of begin", x.undo(), 3);
-        Check.due("info(5)", x.info(5), 3);
-    }
-
-    private static void beginsEmptyAgain() {
-        ShaftPlumb x = Mines.closed(0);
-        x.undo();
-        x.undo();
-        x.undo();
-        Check.due("begin again", x.begin(1), 0);
-        Check.due("its first join", x.traverse(0, 0), 1);
-        Check.due("its legs", x.traverse(0, 1), 0);
-        Check.due("its last join", x.traverse(0, 2), NONE);
-    }
-
-    private static void addLeg() {
-        beginsEmptyAgain();
-        ShaftPlumb x = Mines.joins(0);
-        Check.index(x, "addLeg without traverses", () -> x.addLeg(0, 0, 1));
-        x.begin(0);
-        Check.index(x, "addLeg(-1, 0, 1)", () -> x.addLeg(-1, 0, 1));
-        Check.index(x, "addLeg(1, -1, 1)", () -> x.addLeg(1, -1, 1));
-        Check.argument(x, "angle -1", () -> x.addLeg(0, -1, 1));
-        Check.argument(x, "angle 1296000", () -> x.addLeg(0, 1296000, 1));
-        Check.argument(x, "length 0", () -> x.addLeg(0, 0, 0));
-        Check.argument(x, "length 200001", () -> x.addLeg(0, 0, 200001));
-        Check.due("addLeg", x.addLeg(0, 1295999, 200000), 0);
-        for (int i = 1; i < 12; i++) {
-            Check.due("addLeg", x.addLeg(0, 0, 1), i);
-        }
-        Check.state(x, "a thirteenth leg", () -> x.addLeg(0, 0, 1));
-        Check.argument(x, "a thirteenth leg out of range", () -> x.addLeg(0, 0, 0));
-        Check.due("undo of addLeg", x.undo(), 3);
-        Check.due("legs behind undo", x.traverse(0, 1), 11);
-        x.close(0, 1, 0);
-        Check.state(x, "addLeg to a closed traverse", () -> x.addLeg(0, 0, 1));
-        Check.argument(x, "addLeg to a closed traverse, out of range", () -> x.addLeg(0, -1, 1));
-    }
-
-    private static void dropLeg() {
-        ShaftPlumb x = Mines.joins(0);
-        Check.index(x, "dropLeg without traverses", () -> x.dropLeg(0));
-        x.begin(0);
-        Check.index(x, "dropLeg(-1)", () -> x.dropLeg(-1));
-        Check.index(x, "dropLeg(1)", () -> x.dropLeg(1));
-        Check.state(x, "dropLeg without legs", () -> x.dropLeg(0));
-        x.addLeg(0, 1, 10);
-        x.addLeg(0, 2, 20);
-        x.close(0, 1, 5);
-        Check.due("dropLeg", x.dropLeg(0), 1);
-        Check.due("last join behind dropLeg", x.traverse(0, 2), NONE);
-        Check.due("closing angle behind dropLeg", x.traverse(0, 3), NONE);
-        Check.due("the leg that is left", x.leg(0, 0, 1), 10);
-        Check.due("addLeg behind dropLeg", x.addLeg(0, 3, 30), 1);
-        x.undo();
-        Check.due("dropLeg", x.dropLeg(0), 0);
-        Check.state(x, "dropLeg of a third", () -> x.dropLeg(0));
-        Check.due("undo of dropLeg", x.undo(), 3);
-        Check.due("undo of dropLeg", x.undo(), 2);
-        Check.due("closed again", x.traverse(0, 2), 1);
-        Check.due("closing angle again", x.traverse(0, 3), 5);
-    }
-
-    private static void close() {
-        ShaftPlumb x = Mines.closed(30);
-        Check.due("closed", x.traverse(0, 2), 1);
-        Check.due("closing angle", x.traverse(0, 3), 648000);
-        Check.due("close anew", x.close(0, 1, 648001), 8);
-        Check.due("closing angle", x.traverse(0, 3), 648001);
-        x.join(0, 1, 324000, 100, 100, 0);
-        Check.due("close on another join", x.close(0, 2, 648000), 0);
-        Check.due("last join", x.traverse(0, 2), 2);
-        Check.due("undo of close", x.undo(), 3);
-        Check.due("last join", x.traverse(0, 2), 1);
-        x.set(0, 0);
-        x.still(0);
-        Check.due("close in trouble", x.close(0, 1, 0), 6);
-        Check.due("close with the least angle", x.traverse(0, 3), 0);
-        Check.due("close with the greatest angle", x.close(0, 1, 1295999), 6);
-    }
-
-    private static void closeErrors() {
-        ShaftPlumb x = Mines.joins(0);
-        Check.index(x, "close without traverses", () -> x.close(0, 1, 0));
-        x.begin(1);
-        Check.index(x, "close(-1, 0, 0)", () -> x.close(-1, 0, 0));
-        Check.index(x, "close(1, 0, -1)", () -> x.close(1, 0, -1));
-        Check.index(x, "close(0, 2, -1)", () -> x.close(0, 2, -1));
-        Check.index(x, "close(0, -1, 0)", () -> x.close(0, -1, 0));
-        Check.argument(x, "close on the first join without legs", () -> x.close(0, 1, 0));
-        Check.argument(x, "close(0, 0, -1)", () -> x.close(0, 0, -1));
-        Check.argument(x, "close(0, 0, 1296000)", () -> x.close(0, 0, 1296000));
-        Check.state(x, "close without legs", () -> x.close(0, 0, 0));
-        x.addLeg(0, 0, 1);
-        Check.argument(x, "close on the first join", () -> x.close(0, 1, 0));
-        Check.due("close", x.close(0, 0, 648000), 0);
-    }
-
-    private static void adjust() {
-        ShaftPlumb x = Mines.closed(11);
-        Check.due("adjust", x.adjust(0), 11);
-        Check.due("angle", x.leg(0, 0, 0), 324000 - 6);
-        Check.due("closing angle", x.traverse(0, 3), 648000 - 5);
-        Check.due("gap", x.traverse(0, 5), 0);
-        Check.due("adjust of no gap", x.adjust(0), 0);
-        Check.due("undo", x.undo(), 3);
-        Check.due("undo", x.undo(), 2);
-        Check.due("angle behind undo", x.leg(0, 0, 0), 324000);
-        Check.due("closing angle behind undo", x.traverse(0, 3), 648000);
-        ShaftPlumb y = Mines.closed(-11);
-        Check.due("adjust", y.adjust(0), -11);
-        Check.due("angle", y.leg(0, 0, 0), 324000 + 6);
-        Check.due("closing angle", y.traverse(0, 3), 648000 + 5);
-        Check.due("gap", y.traverse(0, 5), 0);
-    }
-
-    /** A gap over three legs and the closing angle: what is left goes to the longest legs. */
-    private static ShaftPlumb adjusted(int gap, int... lengths) {
-        ShaftPlumb x = Mines.joins(0);
-        x.begin(0);
-        for (int length : lengths) {
-            x.addLeg(0, 0, length);
-        }
-        int turned = (lengths.length - 1) * 648000;
-        x.close(0, 1, Math.floorMod(gap - turned - 648000, 1296000));
-        Check.due("adjust", x.adjust(0), gap);
-        Check.due("gap", x.traverse(0, 5), 0);
         return x;
     }
 
-    private static void angles(ShaftPlumb x, int closing, int... wants) {
-        for (int i = 0; i < wants.length; i++) {
-            Check.due("angle " + i, x.leg(0, i, 0), Math.floorMod(wants[i], 1296000));
+    private static ShaftPlumb noLegs() {
+        return Mines.legs(0);
+    }
+
+    private static ShaftPlumb oneLeg() {
+        return Mines.legs(1);
+    }
+
+    private static ShaftPlumb twelveLegs() {
+        return Mines.legs(12);
+    }
+
+    // ---- Promise 11
+
+    private static void beginTakesJoins() {
+        Check.sentence("Promise 11: there is no such join");
+        Check.index(Mines::wires, x -> x.begin(0));
+        Check.range(Check.INDEX, Mines::joins, 0, 1, (x, join) -> x.begin(join));
+    }
+
+    private static void beginTakesFour() {
+        Check.sentence("Promise 11: at most 4 traverses, numbered from 0");
+        ShaftPlumb x = Mines.joins();
+        for (int i = 0; i < 4; i++) {
+            Check.due(x.begin(i % 2), i);
         }
-        Check.due("closing angle", x.traverse(0, 3), Math.floorMod(closing, 1296000));
+        Check.due(x.traverse(2, 0), 0);
+        Check.due(x.traverse(3, 0), 1);
+        Check.state(TraversesTest::fourTraverses, mine -> mine.begin(0));
+        Check.state(Mines::full, mine -> mine.begin(3));
     }
 
-    private static void adjustLeft() {
-        angles(adjusted(4, 5, 9, 9), -648000 * 3 + 3, -1, -1, -1);
-        angles(adjusted(5, 5, 9, 9), -648000 * 3 + 4, -1, -2, -1);
-        angles(adjusted(6, 5, 9, 9), -648000 * 3 + 5, -1, -2, -2);
-        angles(adjusted(7, 5, 9, 9), -648000 * 3 + 6, -2, -2, -2);
-        angles(adjusted(3, 5, 9, 9), -648000 * 3 + 3, -1, -1, -1);
-        angles(adjusted(2, 5, 9, 9), -648000 * 3 + 2, 0, -1, -1);
-        angles(adjusted(1, 5, 9, 9), -648000 * 3 + 1, 0, -1, 0);
-        angles(adjusted(-1, 9, 5, 10), -648000 * 3 - 1, 0, 0, 1);
-        angles(adjusted(-2, 9, 5, 10), -648000 * 3 - 2, 1, 0, 1);
-        angles(adjusted(-7, 9, 9, 9), -648000 * 3 - 6, 2, 2, 2);
-        angles(adjusted(-5, 9, 9, 9), -648000 * 3 - 4, 2, 1, 1);
-        angles(adjusted(1, 7), -648000 + 1, -1);
+    private static void beginOrder() {
+        Check.sentence("Promise 11: no such join comes before 4 traverses");
+        Check.index(TraversesTest::fourTraverses, x -> x.begin(2));
+        Check.index(TraversesTest::fourTraverses, x -> x.begin(-1));
     }
 
-    private static void adjustErrors() {
-        ShaftPlumb x = Mines.closed(31);
-        Check.index(x, "adjust(-1)", () -> x.adjust(-1));
-        Check.index(x, "adjust(1)", () -> x.adjust(1));
-        Check.state(x, "adjust in trouble 8", () -> x.adjust(0));
-        x.set(1, 31);
-        x.still(1);
-        Check.state(x, "adjust in trouble 6", () -> x.adjust(0));
+    private static void beginMakesEmptyTraverse() {
+        Check.sentence("Promise 11: without legs, not closed, also in the place of a traverse that was undone");
+        ShaftPlumb x = Mines.closed();
         x.undo();
-        x.begin(0);
-        Check.state(x, "adjust in trouble 5", () -> x.adjust(1));
-        x.addLeg(1, 0, 1);
-        Check.state(x, "adjust of an open traverse", () -> x.adjust(1));
-        Check.due("adjust", x.adjust(0), 31);
-    }
-
-    private static void all(ShaftPlumb x, int traverse, int... want) {
+        x.undo();
+        x.undo();
+        Check.due(x.begin(1), 0);
+        int[] want = {1, 0, NONE, NONE, 5, NONE, 0, NONE, NONE, NONE};
         for (int what = 0; what < want.length; what++) {
-            Check.due("traverse(" + traverse + ", " + what + ")", x.traverse(traverse, what), want[what]);
+            Check.due(x.traverse(0, what), want[what]);
         }
     }
 
-    private static void traverseNumbers() {
-        ShaftPlumb x = Mines.closed(10);
-        all(x, 0, 0, 1, 1, 648000, 0, 10, 1000, 0, 0, 0);
-        x.set(1, 9);
-        all(x, 0, 0, 1, 1, 648000, 8, 10, 1000, 0, 0, 0);
-        x.begin(1);
-        all(x, 1, 1, 0, NONE, NONE, 5, NONE, 0, NONE, NONE, NONE);
-        x.addLeg(1, 0, 200000);
-        x.addLeg(1, 0, 3);
-        all(x, 1, 1, 2, NONE, NONE, 0, NONE, 200003, NONE, NONE, NONE);
+    private static void beginTakesJoinInTrouble() {
+        Check.sentence("Promise 11: a join in trouble is no reason to refuse");
+        ShaftPlumb x = Mines.joins();
         x.still(0);
-        all(x, 0, 0, 1, 1, 648000, 6, NONE, 1000, NONE, NONE, NONE);
+        Check.due(x.begin(0), 0);
     }
 
-    private static void traverseErrors() {
-        ShaftPlumb x = Mines.closed(0);
-        Check.argument(x, "traverse(0, -1)", () -> x.traverse(0, -1));
-        Check.argument(x, "traverse(0, 10)", () -> x.traverse(0, 10));
-        Check.index(x, "traverse(-1, 0)", () -> x.traverse(-1, 0));
-        Check.index(x, "traverse(1, 10)", () -> x.traverse(1, 10));
+    private static void beginIsUndoable() {
+        Check.sentence("Promise 11: undoable");
+        Check.undoable(Mines::joins, x -> x.begin(0));
+        Check.undoable(Mines::closed, x -> x.begin(1));
+        ShaftPlumb x = fourTraverses();
+        Check.due(x.undo(), 3);
+        Check.due(x.info(5), 3);
+        Check.due(x.begin(0), 3);
     }
 
-    /** The gap is centred: -648000 to 647999. */
-    private static void gaps() {
-        ShaftPlumb x = Mines.closed(0);
-        Check.due("close", x.close(0, 1, 647999), 0);
-        Check.due("gap", x.traverse(0, 5), -1);
-        x.close(0, 1, 0);
-        Check.due("gap of half a circle", x.traverse(0, 5), -648000);
-        x.close(0, 1, 1295999);
-        Check.due("gap of a second less", x.traverse(0, 5), 647999);
-        x.close(0, 1, 1);
-        Check.due("gap of a second more", x.traverse(0, 5), -647999);
-        x.measure(0, 5);
-        Check.due("gap with a turned first join", x.traverse(0, 5), -647994);
-        x.measure(1, 7);
-        Check.due("gap with a turned last join", x.traverse(0, 5), 647999);
+    // ---- Promise 12
+
+    private static void addLegTakesTraverses() {
+        Check.sentence("Promise 12: there is no such traverse");
+        Check.index(Mines::joins, x -> x.addLeg(0, 0, 1));
+        Check.range(Check.INDEX, Mines::headings, 0, 1, (x, traverse) -> x.addLeg(traverse, 0, 1));
+        Check.range(Check.INDEX, TraversesTest::fourTraverses, 0, 3, (x, traverse) -> x.addLeg(traverse, 0, 1));
     }
 
-    private static void tolerance() {
-        int[] legs = {1, 2, 3, 7, 8, 12};
-        int[] roots = {1, 1, 2, 2, 3, 3};
-        for (int i = 0; i < legs.length; i++) {
-            ShaftPlumb x = Mines.joins(0);
-            x.begin(0);
-            for (int leg = 0; leg < legs[i]; leg++) {
-                x.addLeg(0, 648000, 10);
+    private static void addLegTakesAngles() {
+        Check.sentence("Promise 12: an angle is 0 to 1295999");
+        Check.range(Check.ARGUMENT, TraversesTest::noLegs, 0, 1295999, (x, angle) -> x.addLeg(0, angle, 1));
+    }
+
+    private static void addLegTakesLengths() {
+        Check.sentence("Promise 12: a length is 1 to 200000");
+        Check.range(Check.ARGUMENT, TraversesTest::noLegs, 1, 200000, (x, length) -> x.addLeg(0, 0, length));
+    }
+
+    private static void addLegTakesTwelve() {
+        Check.sentence("Promise 12: at most 12 legs, numbered from 0");
+        ShaftPlumb x = noLegs();
+        for (int i = 0; i < 12; i++) {
+            Check.due(x.addLeg(0, i, 5 + i), i);
+        }
+        Check.due(x.leg(0, 0, 1), 5);
+        Check.due(x.leg(0, 11, 1), 16);
+        Check.state(TraversesTest::twelveLegs, mine -> mine.addLeg(0, 0, 1));
+        Check.state(Mines::full, mine -> mine.addLeg(3, 1295999, 200000));
+    }
+
+    private static void addLegToClosed() {
+        Check.sentence("Promise 12: the traverse is closed");
+        Check.state(Mines::closed, x -> x.addLeg(0, 0, 1));
+        ShaftPlumb x = Mines.closed();
+        Check.due(x.begin(1), 1);
+        Check.due(x.addLeg(1, 0, 1), 0);
+    }
+
+    private static void addLegOrder() {
+        Check.sentence("Promise 12: no such traverse, then out of range, then closed or 12 legs");
+        Check.index(Mines::joins, x -> x.addLeg(0, -1, 0));
+        Check.index(TraversesTest::noLegs, x -> x.addLeg(1, 1296000, 1));
+        Check.index(Mines::closed, x -> x.addLeg(-1, 0, 200001));
+        Check.argument(Mines::closed, x -> x.addLeg(0, -1, 1));
+        Check.argument(Mines::closed, x -> x.addLeg(0, 0, 0));
+        Check.argument(TraversesTest::twelveLegs, x -> x.addLeg(0, 1296000, 1));
+        Check.argument(TraversesTest::twelveLegs, x -> x.addLeg(0, 0, 200001));
+    }
+
+    private static void addLegInTrouble() {
+        Check.sentence("Promise 12: a first join in trouble is no reason to refuse");
+        ShaftPlumb x = noLegs();
+        x.still(0);
+        Check.due(x.addLeg(0, 5, 6), 0);
+        Check.due(x.leg(0, 0, 0), 5);
+        Check.due(x.leg(0, 0, 1), 6);
+    }
+
+    private static void addLegIsUndoable() {
+        Check.sentence("Promise 12: undoable");
+        Check.undoable(TraversesTest::noLegs, x -> x.addLeg(0, 5, 6));
+        Check.undoable(() -> Mines.legs(11), x -> x.addLeg(0, 5, 6));
+        ShaftPlumb x = twelveLegs();
+        Check.due(x.undo(), 3);
+        Check.due(x.traverse(0, 1), 11);
+        Check.due(x.addLeg(0, 7, 8), 11);
+        Check.due(x.leg(0, 11, 1), 8);
+    }
+
+    private static void twelfthLegComesBack() {
+        Check.sentence("UNDO: the twelfth leg comes back, though another one has been added since");
+        ShaftPlumb x = Mines.legs(11);
+        x.addLeg(0, 7, 8);
+        x.dropLeg(0);
+        x.addLeg(0, 9, 10);
+        x.undo();
+        x.undo();
+        Check.due(x.leg(0, 11, 0), 7);
+        Check.due(x.leg(0, 11, 1), 8);
+    }
+
+    // ---- Promise 13
+
+    private static void dropLegTakesTraverses() {
+        Check.sentence("Promise 13: there is no such traverse");
+        Check.index(Mines::joins, x -> x.dropLeg(0));
+        Check.range(Check.INDEX, Mines::headings, 0, 1, (x, traverse) -> x.dropLeg(traverse));
+        Check.range(Check.INDEX, Mines::full, 0, 3, (x, traverse) -> x.dropLeg(traverse));
+    }
+
+    private static void dropLegWithoutLegs() {
+        Check.sentence("Promise 13: it has no legs");
+        Check.state(TraversesTest::noLegs, x -> x.dropLeg(0));
+        ShaftPlumb x = oneLeg();
+        Check.due(x.dropLeg(0), 0);
+        Check.dueText("dropLeg(0) behind the last one", Check.outcome(() -> x.dropLeg(0)),
+            "throws IllegalStateException");
+    }
+
+    private static void dropLegTellsHowManyAreLeft() {
+        Check.sentence("Promise 13: drops the last leg, returns how many are left");
+        ShaftPlumb x = noLegs();
+        for (int i = 0; i < 12; i++) {
+            x.addLeg(0, i, 10 + i);
+        }
+        for (int left = 11; left >= 0; left--) {
+            Check.due(x.dropLeg(0), left);
+            Check.due(x.traverse(0, 1), left);
+            if (left > 0) {
+                Check.due(x.leg(0, left - 1, 1), 9 + left);
             }
-            // All legs have the bearing 648000, so the gap is the closing angle, centred.
-            int most = 30 * roots[i];
-            Check.due("close at the tolerance", x.close(0, 1, most), 0);
-            Check.due("gap", x.traverse(0, 5), most);
-            Check.due("close past the tolerance", x.close(0, 1, most + 1), 8);
-            Check.due("close at the tolerance below 0", x.close(0, 1, 1296000 - most), 0);
-            Check.due("gap", x.traverse(0, 5), -most);
-            Check.due("close past the tolerance below 0", x.close(0, 1, 1296000 - most - 1), 8);
         }
     }
 
-    private static void misses() {
-        ShaftPlumb x = Mines.joins(0);
-        x.begin(0);
-        x.addLeg(0, 0, 400);
-        x.addLeg(0, 972000, 1300);
+    private static void dropLegOpens() {
+        Check.sentence("Promise 13: opens the traverse if it is closed");
+        ShaftPlumb x = Mines.closed();
+        Check.due(x.dropLeg(0), 0);
+        Check.due(x.traverse(0, 2), NONE);
+        Check.due(x.traverse(0, 3), NONE);
+        Check.due(x.traverse(0, 4), 5);
+        Check.due(x.addLeg(0, 3, 30), 0);
+        ShaftPlumb full = twelveLegs();
+        full.close(0, 1, 5);
+        Check.due(full.dropLeg(0), 11);
+        Check.due(full.traverse(0, 2), NONE);
+        Check.due(full.addLeg(0, 3, 30), 11);
+    }
+
+    private static void dropLegIsUndoable() {
+        Check.sentence("Promise 13: undoable, the leg and the closing come back");
+        Check.undoable(TraversesTest::oneLeg, x -> x.dropLeg(0));
+        Check.undoable(Mines::closed, x -> x.dropLeg(0));
+        Check.undoable(Mines::full, x -> x.dropLeg(2));
+        ShaftPlumb x = Mines.closed();
+        x.dropLeg(0);
+        x.undo();
+        Check.due(x.leg(0, 0, 0), 324000);
+        Check.due(x.traverse(0, 2), 1);
+        Check.due(x.traverse(0, 3), 648000);
+    }
+
+    // ---- Promise 14
+
+    private static void closeTakesTraverses() {
+        Check.sentence("Promise 14: there is no such traverse");
+        Check.index(Mines::joins, x -> x.close(0, 1, 0));
+        Check.range(Check.INDEX, TraversesTest::oneLeg, 0, 0, (x, traverse) -> x.close(traverse, 1, 0));
+        Check.range(Check.INDEX, Mines::full, 0, 3, (x, traverse) -> x.close(traverse, 2, 0));
+    }
+
+    private static void closeTakesJoins() {
+        Check.sentence("Promise 14: there is no such join");
+        Check.range(Check.INDEX, TraversesTest::oneLeg, 1, 1, (x, join) -> x.close(0, join == 0 ? -1 : join, 0));
+        Check.range(Check.INDEX, Mines::full, 0, 3, (x, join) -> x.close(1, join, 0));
+    }
+
+    private static void closeTakesOtherJoin() {
+        Check.sentence("Promise 14: join is its first join");
+        Check.argument(TraversesTest::oneLeg, x -> x.close(0, 0, 0));
+        Check.argument(Mines::full, x -> x.close(3, 3, 0));
+        Check.argument(Mines::closed, x -> x.close(0, 0, 648000));
+    }
+
+    private static void closeTakesAngles() {
+        Check.sentence("Promise 14: a closing angle is 0 to 1295999");
+        Check.range(Check.ARGUMENT, TraversesTest::oneLeg, 0, 1295999, (x, angle) -> x.close(0, 1, angle));
+        ShaftPlumb x = oneLeg();
         x.close(0, 1, 0);
-        Check.due("bearing to the east", x.leg(0, 1, 2), 324000);
-        Check.due("miss to the east", x.traverse(0, 7), 300);
-        Check.due("miss to the north", x.traverse(0, 8), 400);
-        Check.due("the miss", x.traverse(0, 9), 500);
-        x.hang(1, 1);
-        Mines.read(x, 2, 100, 100, 100);
-        x.join(2, 1, 0, 1000, 1000, 0);
-        x.close(0, 2, 0);
-        Check.due("miss to the east", x.traverse(0, 7), 1299);
-        Check.due("miss to the north", x.traverse(0, 8), 399);
-        Check.due("the miss", x.traverse(0, 9), 1358);
+        Check.due(x.traverse(0, 3), 0);
+        x.close(0, 1, 1295999);
+        Check.due(x.traverse(0, 3), 1295999);
     }
 
-    private static void legs() {
-        ShaftPlumb x = new ShaftPlumb();
-        x.hang(-500, 700);
-        x.hang(0, 0);
-        Mines.read(x, 0, 1, 1, 1);
-        Mines.read(x, 1, 1, 1, 1);
-        x.join(0, 1, 100000, 1000, 1000, 2000);
-        x.begin(0);
-        x.addLeg(0, 6000, 999);
-        x.addLeg(0, 1200000, 20001);
-        int[] first = {6000, 999, 108000, -500 + 499, 700 + sized(999, 8648)};
-        int[] second = {1200000, 20001, 660000, -1 + sized(20001, -590), first[4] + sized(20001, -9982)};
-        for (int what = 0; what < 5; what++) {
-            Check.due("leg(0, 0, " + what + ")", x.leg(0, 0, what), first[what]);
-            Check.due("leg(0, 1, " + what + ")", x.leg(0, 1, what), second[what]);
-        }
-        Check.due("cosine of 108000", x.sine(432000), 8648);
-        Check.due("sine of 660000", x.sine(660000), -590);
-        Check.due("cosine of 660000", x.sine(984000), -9982);
+    private static void closeWithoutLegs() {
+        Check.sentence("Promise 14: it has no legs");
+        Check.state(TraversesTest::noLegs, x -> x.close(0, 1, 0));
+        Check.state(TraversesTest::fourTraverses, x -> x.close(3, 0, 1295999));
+        Check.due(Check.outcome(() -> oneLeg().close(0, 1, 648000)).equals("0"), true);
+    }
+
+    private static void closeOrder() {
+        Check.sentence("Promise 14: no such traverse or join, then its first join or out of range, then no legs");
+        Check.index(TraversesTest::noLegs, x -> x.close(1, 0, -1));
+        Check.index(TraversesTest::noLegs, x -> x.close(0, 2, -1));
+        Check.index(TraversesTest::noLegs, x -> x.close(0, -1, 0));
+        Check.index(TraversesTest::noLegs, x -> x.close(-1, 1, 0));
+        Check.argument(TraversesTest::noLegs, x -> x.close(0, 0, 0));
+        Check.argument(TraversesTest::noLegs, x -> x.close(0, 1, -1));
+        Check.argument(TraversesTest::noLegs, x -> x.close(0, 1, 1296000));
+    }
+
+    private static void closeExchanges() {
+        Check.sentence("Promise 14: if it is closed already, that is exchanged");
+        ShaftPlumb x = Mines.closed(30);
+        x.join(0, 1, 324000, 100, 100, 0);
+        Check.due(x.close(0, 2, 648001), 0);
+        Check.due(x.traverse(0, 2), 2);
+        Check.due(x.traverse(0, 3), 648001);
+        Check.due(x.traverse(0, 5), 1);
+        x.close(0, 1, 7);
+        Check.due(x.traverse(0, 2), 1);
+        Check.due(x.traverse(0, 3), 7);
+        x.undo();
+        Check.due(x.traverse(0, 2), 2);
+        Check.due(x.traverse(0, 3), 648001);
+    }
+
+    private static void closeTellsTrouble() {
+        Check.sentence("Promise 14: returns its trouble then, 0 if it is in none");
+        Check.due(oneLeg().close(0, 1, 648000), 0);
+        Check.due(oneLeg().close(0, 1, 648030), 0);
+        Check.due(oneLeg().close(0, 1, 648031), 8);
+        ShaftPlumb x = oneLeg();
         x.still(1);
-        int[] troubled = {1200000, 20001, NONE, NONE, NONE};
-        for (int what = 0; what < 5; what++) {
-            Check.due("in trouble, leg(0, 1, " + what + ")", x.leg(0, 1, what), troubled[what]);
-        }
+        Check.due(x.close(0, 1, 648000), 6);
+        ShaftPlumb y = oneLeg();
+        y.hang(0, 0);
+        y.join(2, 0, 0, 100, 100, 0);
+        Check.due(y.close(0, 2, 648000), 7);
     }
 
-    private static int sized(int length, int ratio) {
-        return (int) ((long) length * ratio / 10000);
-    }
-
-    private static void legErrors() {
-        ShaftPlumb x = Mines.closed(0);
-        Check.index(x, "leg(-1, 0, 0)", () -> x.leg(-1, 0, 0));
-        Check.index(x, "leg(1, 0, 5)", () -> x.leg(1, 0, 5));
-        Check.index(x, "leg(0, -1, 5)", () -> x.leg(0, -1, 5));
-        Check.index(x, "leg(0, 1, 0)", () -> x.leg(0, 1, 0));
-        Check.argument(x, "leg(0, 0, -1)", () -> x.leg(0, 0, -1));
-        Check.argument(x, "leg(0, 0, 5)", () -> x.leg(0, 0, 5));
-        x.set(0, 0);
-        x.measure(1, 3600);
-        Check.due("leg in trouble 8", x.leg(0, 0, 2), 324000);
-    }
-
-    private static void chain(ShaftPlumb x, int... want) {
-        Check.due("trouble(0, -1)", x.trouble(0, -1), NONE);
-        for (int level = 0; level < 5; level++) {
-            Check.due("trouble(0, " + level + ")", x.trouble(0, level), level < want.length ? want[level] : NONE);
-        }
-        Check.due("trouble(0, MAX)", x.trouble(0, Integer.MAX_VALUE), NONE);
-    }
-
-    private static void troubles() {
-        ShaftPlumb x = Mines.joins(0);
-        Check.index(x, "trouble(0, 0) without traverses", () -> x.trouble(0, 0));
-        x.begin(0);
-        Check.index(x, "trouble(-1, -1)", () -> x.trouble(-1, -1));
-        Check.index(x, "trouble(1, 0)", () -> x.trouble(1, 0));
-        chain(x, 5);
-        x.still(0);
-        chain(x, 5);
-        x.addLeg(0, 0, 1);
-        chain(x, 6, 3, 1);
-        Mines.read(x, 0, 100, 100, 121);
-        chain(x, 6, 3, 2);
-        x.still(1);
-        chain(x, 6, 3, 2);
-        x.set(0, 21);
-        chain(x, 6, 3, 1);
-        Mines.read(x, 1, 105, 105, 105);
-        chain(x);
-        x.join(0, 1, 0, 100, 301, 0);
-        x.begin(2);
-        x.addLeg(1, 0, 1);
-        Check.due("trouble(1, 0)", x.trouble(1, 0), 6);
-        Check.due("trouble(1, 1)", x.trouble(1, 1), 4);
-        Check.due("trouble(1, 2)", x.trouble(1, 2), NONE);
+    private static void closeIsUndoable() {
+        Check.sentence("Promise 14: undoable, also if nothing changes");
+        Check.undoable(TraversesTest::oneLeg, x -> x.close(0, 1, 0));
+        Check.undoable(Mines::closed, x -> x.close(0, 1, 5));
+        Check.undoable(Mines::closed, x -> x.close(0, 1, 648000));
+        ShaftPlumb x = oneLeg();
         x.close(0, 1, 0);
-        chain(x, 8);
-    }
-
-    private static void troubleOfLastJoin() {
-        ShaftPlumb x = Mines.wires();
-        x.hang(5, 5);
-        x.hang(6, 6);
-        x.join(0, 1, 0, 100, 100, 0);
-        x.join(2, 3, 0, 100, 100, 0);
-        x.join(0, 1, 0, 100, 400, 0);
-        x.begin(0);
-        x.addLeg(0, 0, 1);
-        Check.due("close", x.close(0, 1, 0), 7);
-        chain(x, 7, 3, 1);
-        Mines.read(x, 2, 0, 0, 100);
-        chain(x, 7, 3, 2);
-        all(x, 0, 0, 1, 1, 0, 7, NONE, 1, NONE, NONE, NONE);
-        Check.state(x, "adjust in trouble 7", () -> x.adjust(0));
-        Check.due("leg in trouble 7", x.leg(0, 0, 4), 1);
-        Check.due("apart in trouble 7", x.apart(0, 0), 0);
-        Check.due("suspect in trouble 7", x.suspect(0), NONE);
-        Check.due("angleFor in trouble 7", x.angleFor(0, 0, 3600), NONE);
-        Check.due("reachBy in trouble 7", x.reachBy(0, 0, 0, 5), 1000);
-        Check.due("close", x.close(0, 2, 0), 7);
-        chain(x, 7, 4);
-        x.still(0);
-        chain(x, 6, 3, 1);
+        x.undo();
+        Check.due(x.traverse(0, 2), NONE);
+        Check.due(x.addLeg(0, 0, 1), 1);
     }
 }
