@@ -4,6 +4,7 @@ public final class AdjustTest {
         adjustTakesTraverses();
         adjustOfOpenTraverse();
         adjustInTrouble();
+        adjustTellsGap();
         adjustAtTolerance();
         adjustOfNoGap();
         adjustSharesEvenly();
@@ -16,6 +17,7 @@ public final class AdjustTest {
         adjustIsNormed();
         adjustOfLeftIsNormed();
         adjustMakesGapZero();
+        adjustLeavesTheRest();
         adjustIsUndoable();
         Check.end("AdjustTest");
     }
@@ -59,6 +61,16 @@ public final class AdjustTest {
     }
 
     // ---- what is taken away
+
+    private static void adjustTellsGap() {
+        Check.sentence("Promise 15: returns the gap that it had");
+        for (int gap = -30; gap <= 30; gap++) {
+            ShaftPlumb x = Mines.closed(gap);
+            Check.due(x.traverse(0, 5), gap);
+            Check.due(x.adjust(0), gap);
+            Check.due(x.traverse(0, 5), 0);
+        }
+    }
 
     private static void adjustAtTolerance() {
         Check.sentence("Promise 15: a gap as great as the tolerance is taken, one second more is not");
@@ -233,6 +245,34 @@ public final class AdjustTest {
         ShaftPlumb far = adjusted(-1800, 200000, 1, 1, 1, 1, 1, 1, 1, 1, 1, 1, 1);
         Check.due(far.leg(0, 0, 2), 139);
         Check.due(far.leg(0, 0, 3), 200000L * far.sine(139) / 10000);
+    }
+
+    /** The traverses 0 and 1 close with a gap of 11 each. */
+    private static ShaftPlumb closedTwice() {
+        ShaftPlumb x = Mines.closed(11);
+        x.begin(0);
+        x.addLeg(1, 324000, 1000);
+        x.close(1, 1, 648000);
+        return x;
+    }
+
+    private static void adjustLeavesTheRest() {
+        Check.sentence("Promise 15: no other traverse, and nothing else of this one, is changed");
+        ShaftPlumb x = closedTwice();
+        Check.due(x.adjust(1), 11);
+        Check.due(x.traverse(1, 5), 0);
+        Check.due(x.leg(1, 0, 0), 324000 - 6);
+        Check.due(x.leg(1, 0, 1), 1000);
+        Check.due(x.traverse(1, 0), 0);
+        Check.due(x.traverse(1, 2), 1);
+        Check.due(x.leg(0, 0, 0), 324000);
+        Check.due(x.traverse(0, 3), 648000);
+        Check.due(x.traverse(0, 5), 11);
+        for (int join = 0; join < 2; join++) {
+            for (int what = 0; what <= 7; what++) {
+                Check.due(x.joinOf(join, what), closedTwice().joinOf(join, what));
+            }
+        }
     }
 
     private static void adjustIsUndoable() {

@@ -53,7 +53,8 @@ public final class FaceTest {
     };
 
     public static void main(String[] args) throws IOException {
-        members();
+        methods();
+        otherMembers();
         privateNames();
         nestedClasses();
         source();
@@ -73,7 +74,8 @@ public final class FaceTest {
         return text.toString();
     }
 
-    private static void members() {
+    private static void methods() {
+        Check.sentence("The public face: its methods, with their parameters and exceptions");
         Set<String> told = new TreeSet<>();
         for (Method method : ShaftPlumb.class.getDeclaredMethods()) {
             if (!Modifier.isPrivate(method.getModifiers())) {
@@ -82,6 +84,10 @@ public final class FaceTest {
             }
         }
         Check.dueText("the methods", told.toString(), new TreeSet<>(Arrays.asList(FACE)).toString());
+    }
+
+    private static void otherMembers() {
+        Check.sentence("The public face: nothing else is public, the class is final, one constructor");
         int fields = 0;
         for (Field field : ShaftPlumb.class.getDeclaredFields()) {
             fields += Modifier.isPrivate(field.getModifiers()) ? 0 : 1;

@@ -1,6 +1,8 @@
 /** Promises 16 to 18: traverse, leg, trouble, with the bearings, gaps, misses and troubles that they tell. */
 public final class TellingTest {
     private static final int NONE = ShaftPlumb.NONE;
+    // The last bearing of the traverse 3 of a full mine is 960506, the start of the join 1 is 300170.
+    private static final int FOURTH_CLOSING = 300170 + 50 - 960506 - 648000 + 2 * 1296000;
 
     public static void main(String[] args) {
         traverseTakesTraverses();
@@ -10,7 +12,9 @@ public final class TellingTest {
         traverseNotClosed();
         traverseClosed();
         traverseInTrouble();
+        traverseTellsOfFourth();
         sumOfLengths();
+        gapOfLegs();
         gapIsCentred();
         toleranceOfEachNumberOfLegs();
         toleranceOfLeastAndGreatest();
@@ -20,6 +24,7 @@ public final class TellingTest {
         legTakesTraverses();
         legTakesLegs();
         legTakesFiveNumbers();
+        legTellsOfLast();
         legOrder();
         legInTrouble();
         bearingOfFirstLeg();
@@ -109,6 +114,24 @@ public final class TellingTest {
         all(lastJoinInTrouble(301), 0, 0, 1, 2, 648000, 7, NONE, 1000, NONE, NONE, NONE);
     }
 
+    /** A full mine, whose traverse 3 has the lengths 7, 1007, 2007 and so on, and closes on the join 1. */
+    private static ShaftPlumb fullAndClosed() {
+        ShaftPlumb x = Mines.full();
+        x.close(3, 1, FOURTH_CLOSING);
+        return x;
+    }
+
+    private static void traverseTellsOfFourth() {
+        Check.sentence("Promise 16: the fourth traverse is told like the others");
+        ShaftPlumb x = fullAndClosed();
+        int east = x.leg(3, 11, 3) - 1000;
+        int north = x.leg(3, 11, 4) - 400;
+        int miss = (int) Math.sqrt((double) east * east + (double) north * north);
+        all(x, 3, 3, 12, 1, FOURTH_CLOSING, 0, 50, 66084, east, north, miss);
+        Check.due(x.close(3, 1, FOURTH_CLOSING + 40), 0);
+        Check.due(x.close(3, 1, FOURTH_CLOSING + 41), 8);
+    }
+
     private static void sumOfLengths() {
         Check.sentence("Promise 16: 6 the sum of its lengths");
         ShaftPlumb x = Mines.legs(0);
@@ -119,6 +142,24 @@ public final class TellingTest {
         Check.due(x.traverse(0, 6), 2400000);
         x.dropLeg(0);
         Check.due(x.traverse(0, 6), 2200000);
+    }
+
+    private static void gapOfLegs() {
+        Check.sentence("TRAVERSES: the gap is the closing bearing minus the start of the last join");
+        ShaftPlumb x = Mines.wires();
+        x.join(0, 1, 123, 1000, 1000, 5);
+        x.join(1, 0, 4000, 1000, 1000, -7);
+        x.begin(0);
+        int last = 123 + 5;
+        for (int leg = 0; leg < 12; leg++) {
+            x.addLeg(0, 1000 * leg + 9, 50);
+            last = (last + 1000 * leg + 9 + (leg == 0 ? 0 : 648000)) % 1296000;
+            x.close(0, 1, 10000 + leg);
+            int turned = (last + 10000 + leg + 648000) % 1296000 - (4000 - 7);
+            Check.due(x.leg(0, leg, 2), last);
+            Check.due(x.traverse(0, 5), turned > 647999 ? turned - 1296000 : turned);
+            x.undo();
+        }
     }
 
     /** One leg to the south, so that the closing bearing is the closing angle. */
@@ -272,6 +313,16 @@ public final class TellingTest {
         Check.sentence("Promise 17: what is 0 to 4, also where NONE is due");
         Check.range(Check.ARGUMENT, Mines::closed, 0, 4, (x, what) -> x.leg(0, 0, what));
         Check.range(Check.ARGUMENT, TellingTest::firstJoinInTrouble, 0, 4, (x, what) -> x.leg(0, 0, what));
+    }
+
+    private static void legTellsOfLast() {
+        Check.sentence("Promise 17: the last leg of the fourth traverse is told like the others");
+        ShaftPlumb x = fullAndClosed();
+        Check.due(x.leg(3, 11, 0), 550003);
+        Check.due(x.leg(3, 11, 1), 11007);
+        Check.due(x.leg(3, 11, 2), 960506);
+        Check.due(x.leg(3, 11, 3), x.leg(3, 10, 3) + sized(11007, x.sine(960506)));
+        Check.due(x.leg(3, 11, 4), x.leg(3, 10, 4) + sized(11007, x.sine(960506 + 324000)));
     }
 
     private static void legOrder() {

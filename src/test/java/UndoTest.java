@@ -13,6 +13,10 @@ public final class UndoTest {
         undoRestoresEverything();
         undoLeavesText();
         undoOfRefused();
+        refusedChangesOfWires();
+        refusedChangesOfTraverses();
+        refusedLooks();
+        refusedTexts();
         undoOfManyChanges();
         checksumOfNewMine();
         checksumOfEverything();
@@ -172,6 +176,78 @@ public final class UndoTest {
         Check.outcome(() -> x.run());
         Check.due(x.undo(), 3);
         Check.due(x.info(0), 20);
+    }
+
+    /** A full mine with a traverse in trouble 8, four copies, and a text that has a fault. */
+    private static ShaftPlumb busy() {
+        ShaftPlumb x = Mines.full();
+        x.close(0, 1, 5);
+        Mines.type(x, "k0;k");
+        return x;
+    }
+
+    private static void refusedChangesOfWires() {
+        Check.sentence("EXCEPTIONS: a call that throws changes nothing: set, hang, swing, still, join, measure");
+        Check.argument(UndoTest::busy, x -> x.set(0, -1));
+        Check.argument(UndoTest::busy, x -> x.hang(1000001, 0));
+        Check.state(UndoTest::busy, x -> x.hang(0, 0));
+        Check.index(UndoTest::busy, x -> x.swing(6, 0));
+        Check.argument(UndoTest::busy, x -> x.swing(0, 1000));
+        Check.state(UndoTest::busy, x -> x.swing(0, 0));
+        Check.index(UndoTest::busy, x -> x.still(6));
+        Check.index(UndoTest::busy, x -> x.join(0, 6, 0, 100, 100, 0));
+        Check.argument(UndoTest::busy, x -> x.join(0, 0, 0, 100, 100, 0));
+        Check.state(UndoTest::busy, x -> x.join(0, 1, 0, 100, 100, 0));
+        Check.index(UndoTest::busy, x -> x.measure(4, 0));
+        Check.argument(UndoTest::busy, x -> x.measure(0, 3601));
+    }
+
+    private static void refusedChangesOfTraverses() {
+        Check.sentence("EXCEPTIONS: a call that throws changes nothing: begin, addLeg, dropLeg, close, adjust");
+        Check.index(UndoTest::busy, x -> x.begin(4));
+        Check.state(UndoTest::busy, x -> x.begin(0));
+        Check.index(UndoTest::busy, x -> x.addLeg(4, 0, 1));
+        Check.argument(UndoTest::busy, x -> x.addLeg(1, 0, 0));
+        Check.state(UndoTest::busy, x -> x.addLeg(0, 0, 1));
+        Check.state(UndoTest::busy, x -> x.addLeg(1, 0, 1));
+        Check.index(UndoTest::busy, x -> x.dropLeg(4));
+        Check.state(() -> Mines.legs(0), x -> x.dropLeg(0));
+        Check.index(UndoTest::busy, x -> x.close(0, 4, 0));
+        Check.argument(UndoTest::busy, x -> x.close(0, 0, 0));
+        Check.state(() -> Mines.legs(0), x -> x.close(0, 1, 0));
+        Check.index(UndoTest::busy, x -> x.adjust(4));
+        Check.state(UndoTest::busy, x -> x.adjust(0));
+        Check.state(UndoTest::busy, x -> x.adjust(1));
+    }
+
+    private static void refusedLooks() {
+        Check.sentence("EXCEPTIONS: a call that throws changes nothing: those that only look");
+        Check.argument(UndoTest::busy, x -> x.info(8));
+        Check.index(UndoTest::busy, x -> x.wire(6, 0));
+        Check.argument(UndoTest::busy, x -> x.wire(0, 6));
+        Check.index(UndoTest::busy, x -> x.joinOf(4, 0));
+        Check.argument(UndoTest::busy, x -> x.joinOf(0, 8));
+        Check.index(UndoTest::busy, x -> x.traverse(4, 0));
+        Check.argument(UndoTest::busy, x -> x.traverse(0, 10));
+        Check.index(UndoTest::busy, x -> x.leg(0, 12, 0));
+        Check.argument(UndoTest::busy, x -> x.leg(0, 0, 5));
+        Check.index(UndoTest::busy, x -> x.trouble(4, 0));
+        Check.index(UndoTest::busy, x -> x.apart(0, 4));
+        Check.index(UndoTest::busy, x -> x.meets(4, 0) ? 1 : 0);
+        Check.argument(UndoTest::busy, x -> x.sine(10000001));
+        Check.index(UndoTest::busy, x -> x.suspect(4));
+        Check.index(UndoTest::busy, x -> x.angleFor(0, 4, 0));
+        Check.argument(UndoTest::busy, x -> x.angleFor(0, 0, 3601));
+        Check.index(UndoTest::busy, x -> x.reachBy(0, 4, 0, 1));
+        Check.argument(UndoTest::busy, x -> x.reachBy(0, 1, 0, 2001));
+    }
+
+    private static void refusedTexts() {
+        Check.sentence("EXCEPTIONS: a call that throws changes nothing: type, run, undo");
+        Check.argument(UndoTest::busy, x -> x.type(127));
+        Check.state(() -> Mines.typed("k".repeat(90)), x -> x.type('k'));
+        Check.argument(UndoTest::busy, x -> x.run());
+        Check.state(() -> Mines.typed("k0;k"), x -> x.undo());
     }
 
     private static void undoOfManyChanges() {
